@@ -241,16 +241,22 @@ public final class JournalHouse {
             throw new IllegalArgumentException();
         }
         boolean isOneMore = action == IS_SENT || action == IS_DOUBLED;
-        if (action == IS_SENT && !up || isOneMore && letters.count == LETTERS) {
+        if ((action == IS_SENT && !up) || (isOneMore && letters.count == LETTERS)) {
             throw new IllegalStateException();
         }
-        if (isOneMore) {
-            letters.put(action == IS_SENT ? k : letters.entries[k]);
-        } else {
-            int taken = letters.take(k);
-            if (action == COMES) {
-                remoteHouse.receive(taken, journal);
-            }
+        switch (action) {
+            case COMES:
+                remoteHouse.receive(letters.take(k), journal);
+                break;
+            case IS_LOST:
+                letters.take(k);
+                break;
+            case IS_DOUBLED:
+                letters.put(letters.entries[k]);
+                break;
+            default:
+                letters.put(k);
+                break;
         }
         return letters.count;
     }
@@ -264,7 +270,7 @@ public final class JournalHouse {
     }
 
     public int takeOver() {
-        remoteHouse.becomeFirst(journal);
+        remoteHouse.undoOpenCycles(journal);
         return remoteHouse.applied;
     }
 
@@ -598,14 +604,15 @@ public final class JournalHouse {
         }
     }
 
+    /** What the entries that came over the link have made of the same files. */
     private static final class RemoteHouse {
         final int[] records = new int[CELLS];
         private final boolean[] received = new boolean[ENTRIES + 1];
         int applied;
-        private boolean first;
+        private boolean takenOver;
 
         void receive(int number, Journal journal) {
-            if (first) {
+            if (takenOver) {
                 return;
             }
             received[number] = true;
@@ -617,11 +624,11 @@ public final class JournalHouse {
             }
         }
 
-        void becomeFirst(Journal journal) {
-            if (first) {
+        void undoOpenCycles(Journal journal) {
+            if (takenOver) {
                 return;
             }
-            first = true;
+            takenOver = true;
             // Going back, what stands before a job's newest end belongs to a cycle that is over.
             boolean[] isOver = new boolean[JOBS + 1];
             for (int n = applied; n > 0; n--) {

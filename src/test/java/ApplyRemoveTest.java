@@ -6,6 +6,8 @@ public final class ApplyRemoveTest {
         appliesThroughARollback(checks);
         limits(checks);
         limitOfARemovedFile(checks);
+        limitsWithoutChanges(checks);
+        filesApart(checks);
         removes(checks);
         nothingToChange(checks);
         boundaries(checks);
@@ -92,6 +94,46 @@ public final class ApplyRemoveTest {
         checks.wrongState("behind the limit", () -> house.apply(0, 8));
         checks.same("just below it", house.apply(0, 6), 1);
         checks.same("get", house.get(0, 0), 3);
+    }
+
+    /** Only if the house changed nothing there may be a boundary at the limit. */
+    private static void limitsWithoutChanges(Checks checks) {
+        JournalHouse house = Houses.withFiles(1, 1);
+        house.save(0, 0);
+        Houses.commitAll(house, 1, 0);
+        checks.same("restore", house.restore(0), 0);
+        Houses.commit(house, 1, 0, 7);
+        checks.yes("boundary", house.boundary(0, 5));
+        checks.wrongState("the limit of a restored file", () -> house.apply(0, 5));
+        checks.wrongState("behind the limit", () -> house.apply(0, 6));
+        checks.same("below the limit", house.apply(0, 4), 0);
+        JournalHouse other = Houses.withFiles(1, 1);
+        Houses.commitAll(other, 1, 0);
+        checks.same("remove", other.remove(0, 0), 0);
+        Houses.commit(other, 1, 0, 7);
+        checks.wrongState("the limit of a removed file", () -> other.apply(0, 5));
+        checks.same("below the limit", other.apply(0, 2), 1);
+        checks.same("get", other.get(0, 0), 1);
+    }
+
+    private static void filesApart(Checks checks) {
+        JournalHouse house = Houses.withFiles(2, 2);
+        house.save(1, 1);
+        Houses.commit(house, 0, 1, 1);
+        house.save(0, 0);
+        Houses.commit(house, 0, 0, 2);
+        Houses.commit(house, 1, 1, 3);
+        house.restore(0);
+        house.restore(1);
+        checks.same("apply to file 0", house.apply(0, 4), 1);
+        checks.same("record 0", house.get(0, 0), 2);
+        checks.same("record 1 stays", house.get(0, 1), 1);
+        checks.same("apply to file 1", house.apply(1, 6), 1);
+        checks.same("record 0 stays", house.get(1, 0), 0);
+        checks.same("record 1", house.get(1, 1), 3);
+        checks.same("remove from file 0", house.remove(0, 2), 1);
+        checks.same("record 0", house.get(0, 0), 0);
+        checks.same("record 1 stays", house.get(0, 1), 1);
     }
 
     private static void removes(Checks checks) {

@@ -6,6 +6,7 @@ public final class ChangeTest {
         wrongArguments(checks);
         locks(checks);
         reserveOfOne(checks);
+        justEnoughRoom(checks);
         reserveOfSeveral(checks);
         roomEndsAt120(checks);
         whileDown(checks);
@@ -59,6 +60,19 @@ public final class ChangeTest {
         checks.wrongState("the first one of another job", () -> house.change(1, 0, 0, 24));
         checks.same("rolled back", house.end(0, false), 47);
         checks.wrongState("no room for a change and its end", () -> house.change(0, 0, 0, 1));
+    }
+
+    private static void justEnoughRoom(Checks checks) {
+        JournalHouse house = Houses.withFiles(1);
+        house.change(0, 0, 0, 1);
+        house.change(0, 0, 0, 2);
+        house.end(0, true);
+        for (int n = 4; n <= 25; n++) {
+            checks.same("change", house.change(0, 0, 0, n), n);
+        }
+        checks.wrongState("room was as much as the reserve", () -> house.change(0, 0, 0, 26));
+        checks.same("rolled back", house.end(0, false), 48);
+        checks.wrongState("all is full", () -> house.change(0, 0, 0, 1));
     }
 
     private static void reserveOfSeveral(Checks checks) {

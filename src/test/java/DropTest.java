@@ -5,8 +5,10 @@ public final class DropTest {
         drops(checks);
         notFull(checks);
         openCycle(checks);
+        openCycleOfEachJob(checks);
         notAcknowledged(checks);
         makesRoom(checks);
+        allReceivers(checks);
         whileDown(checks);
         checks.finish();
     }
@@ -40,6 +42,21 @@ public final class DropTest {
         Houses.deliver(house, 8, 8);
         house.ack();
         checks.same("eight entries", house.drop(), 1);
+    }
+
+    private static void openCycleOfEachJob(Checks checks) {
+        for (int job = 0; job <= 2; job++) {
+            JournalHouse house = Houses.withFiles(2);
+            Houses.commitAll(house, 1, 2, 3);
+            house.change((job + 1) % 3, 0, 0, 4);
+            house.change(job, 0, 1, 5);
+            house.end((job + 1) % 3, true);
+            Houses.deliver(house, 1, 9);
+            house.ack();
+            checks.wrongState("job " + job + " began in it", house::drop);
+            house.end(job, true);
+            checks.same("no cycle is open", house.drop(), 1);
+        }
     }
 
     private static void openCycle(Checks checks) {
@@ -89,6 +106,36 @@ public final class DropTest {
         }
         checks.wrongState("not a fifth and its way back", () -> house.change(0, 0, 0, 5));
         checks.same("rolled back", house.end(0, false), 55);
+    }
+
+    private static void allReceivers(Checks checks) {
+        JournalHouse house = Houses.withFiles(1);
+        for (int receiver = 0; receiver < 14; receiver++) {
+            Houses.commitAll(house, 1, 2, 3, 4);
+            Houses.dropReceiver(house, receiver);
+        }
+        house.change(0, 0, 0, 5);
+        house.change(0, 0, 0, 6);
+        house.end(0, true);
+        checks.same("three entries", house.last(), 115);
+        house.change(0, 0, 0, 7);
+        house.change(0, 0, 0, 8);
+        checks.same("as much room as the reserve", house.end(0, false), 120);
+        checks.same("the last entry", house.entry(120, 0), 3);
+        checks.yes("boundary", house.boundary(0, 120));
+        checks.wrongState("a change", () -> house.change(0, 0, 0, 9));
+        Houses.deliver(house, 113, 120);
+        checks.same("ack", house.ack(), 120);
+        checks.same("the last receiver", house.drop(), 15);
+        checks.wrongState("there is no more", house::drop);
+        checks.wrongState("nor is there room", () -> house.change(0, 0, 0, 9));
+        checks.same("save", house.save(0, 0), 120);
+        checks.same("restore", house.restore(0), 0);
+        checks.same("remote", house.remote(0, 0), 6);
+        checks.same("takeOver", house.takeOver(), 120);
+        house.cut(0);
+        checks.same("start", house.start(), 120);
+        checks.same("get", house.get(0, 0), 6);
     }
 
     private static void whileDown(Checks checks) {
