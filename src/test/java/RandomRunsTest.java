@@ -1,3 +1,5 @@
+import java.lang.reflect.InvocationTargetException;
+import java.lang.reflect.Method;
 import java.util.Arrays;
 import java.util.Random;
 
@@ -7,6 +9,7 @@ public final class RandomRunsTest {
     private static final int CALLS = 512;
     private static final long ARGUMENT = Long.MIN_VALUE;
     private static final long STATE = Long.MIN_VALUE + 1;
+    private static final long OTHER = Long.MIN_VALUE + 2;
 
     private static final String[] NAMES = {"file", "change", "get", "disk", "end", "save", "restore", "apply",
             "remove", "number", "last", "boundary", "entry", "drop", "cut", "start", "link", "ack", "takeOver",
@@ -17,7 +20,6 @@ public final class RandomRunsTest {
     private static final int[] EDGES = {Integer.MIN_VALUE, -2, -1, 3, 4, 8, 9, 16, 24, 25, 121, Integer.MAX_VALUE};
 
     private static final int PUMPING = 60;
-
     private static final int FIRST_FILES = 2;
 
     private static final int FILE = 0;
@@ -28,6 +30,9 @@ public final class RandomRunsTest {
     private static final int LINK = 16;
     private static final int ACK = 17;
     private static final int TAKE_OVER = 18;
+
+    private static final Method[] HOUSE = methodsOf(JournalHouse.class);
+    private static final Method[] MODEL = methodsOf(Model.class);
 
     private final Checks checks = new Checks();
     private final int[][] outcomes = new int[NAMES.length][3];
@@ -57,8 +62,8 @@ public final class RandomRunsTest {
             int[] call = i < FIRST_FILES
                     ? new int[] {FILE, 1 + random.nextInt(8)}
                     : draw(random, model, pumping, i >= takeOverFrom);
-            long due = answer(model, call);
-            long got = answer(house, call);
+            long due = answer(model, MODEL, call);
+            long got = answer(house, HOUSE, call);
             outcomes[call[0]][due == ARGUMENT ? 1 : due == STATE ? 2 : 0]++;
             told.append(textOf(call)).append(" -> ").append(due).append('\n');
             if (got != due) {
@@ -151,65 +156,34 @@ public final class RandomRunsTest {
         return random.nextBoolean() ? number : Math.max(number, model.last() - random.nextInt(12));
     }
 
-    private static long answer(Model x, int[] c) {
-        try {
-            switch (NAMES[c[0]]) {
-                case "file": return x.file(c[1]);
-                case "change": return x.change(c[1], c[2], c[3], c[4]);
-                case "get": return x.get(c[1], c[2]);
-                case "disk": return x.disk(c[1], c[2]);
-                case "end": return x.end(c[1], c[2] == 1);
-                case "save": return x.save(c[1], c[2]);
-                case "restore": return x.restore(c[1]);
-                case "apply": return x.apply(c[1], c[2]);
-                case "remove": return x.remove(c[1], c[2]);
-                case "number": return x.number(c[1]);
-                case "last": return x.last();
-                case "boundary": return x.boundary(c[1], c[2]) ? 1 : 0;
-                case "entry": return x.entry(c[1], c[2]);
-                case "drop": return x.drop();
-                case "cut": return x.cut(c[1]);
-                case "start": return x.start();
-                case "link": return x.link(c[1], c[2]);
-                case "ack": return x.ack();
-                case "takeOver": return x.takeOver();
-                default: return x.remote(c[1], c[2]);
+    private static Method[] methodsOf(Class<?> type) {
+        Method[] methods = new Method[NAMES.length];
+        for (Method method : type.getDeclaredMethods()) {
+            int at = Arrays.asList(NAMES).indexOf(method.getName());
+            if (at >= 0) {
+                methods[at] = method;
             }
-        } catch (IllegalArgumentException e) {
-            return ARGUMENT;
-        } catch (IllegalStateException e) {
-            return STATE;
         }
+        return methods;
     }
 
-    private static long answer(JournalHouse x, int[] c) {
+    private static long answer(Object house, Method[] methods, int[] call) {
+        Object[] arguments = new Object[ARGUMENTS[call[0]]];
+        for (int i = 0; i < arguments.length; i++) {
+            arguments[i] = call[i + 1];
+        }
+        if (call[0] == END) {
+            arguments[1] = call[2] == 1;
+        }
         try {
-            switch (NAMES[c[0]]) {
-                case "file": return x.file(c[1]);
-                case "change": return x.change(c[1], c[2], c[3], c[4]);
-                case "get": return x.get(c[1], c[2]);
-                case "disk": return x.disk(c[1], c[2]);
-                case "end": return x.end(c[1], c[2] == 1);
-                case "save": return x.save(c[1], c[2]);
-                case "restore": return x.restore(c[1]);
-                case "apply": return x.apply(c[1], c[2]);
-                case "remove": return x.remove(c[1], c[2]);
-                case "number": return x.number(c[1]);
-                case "last": return x.last();
-                case "boundary": return x.boundary(c[1], c[2]) ? 1 : 0;
-                case "entry": return x.entry(c[1], c[2]);
-                case "drop": return x.drop();
-                case "cut": return x.cut(c[1]);
-                case "start": return x.start();
-                case "link": return x.link(c[1], c[2]);
-                case "ack": return x.ack();
-                case "takeOver": return x.takeOver();
-                default: return x.remote(c[1], c[2]);
-            }
-        } catch (IllegalArgumentException e) {
-            return ARGUMENT;
-        } catch (IllegalStateException e) {
-            return STATE;
+            Object answer = methods[call[0]].invoke(house, arguments);
+            return answer instanceof Boolean yes ? (yes ? 1 : 0) : ((Number) answer).longValue();
+        } catch (InvocationTargetException e) {
+            Class<?> thrown = e.getCause().getClass();
+            return thrown == IllegalArgumentException.class ? ARGUMENT
+                    : thrown == IllegalStateException.class ? STATE : OTHER;
+        } catch (IllegalAccessException e) {
+            throw new AssertionError(e);
         }
     }
 
@@ -230,11 +204,5 @@ public final class RandomRunsTest {
         }
         checks.yes("receivers were dropped up to 9 and more: " + mostDropped, mostDropped >= 9);
         checks.yes("the journal was filled: " + mostEntries, mostEntries >= 110);
-        if (System.getProperty("told") != null) {
-            for (int method = 0; method < NAMES.length; method++) {
-                System.out.println(NAMES[method] + " " + Arrays.toString(outcomes[method]));
-            }
-            System.out.println("dropped " + mostDropped + ", entries " + mostEntries);
-        }
     }
 }
