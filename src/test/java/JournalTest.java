@@ -11,29 +11,19 @@ public final class JournalTest {
         checks.finish();
     }
 
-    private static void boundaryRow(Checks checks, JournalHouse house, int file, String due) {
-        StringBuilder got = new StringBuilder();
-        for (int n = 0; n <= house.last(); n++) {
-            got.append(house.boundary(file, n) ? '+' : '-');
-        }
-        if (!got.toString().equals(due)) {
-            checks.complain("boundaries of file " + file + " are " + got + ", due is " + due);
-        }
-    }
-
     private static void boundaries(Checks checks) {
         JournalHouse house = Houses.withFiles(2, 1, 1);
         house.change(0, 0, 0, 1);
         house.change(0, 1, 0, 1);
         house.change(1, 0, 1, 1);
-        boundaryRow(checks, house, 0, "+---");
-        boundaryRow(checks, house, 1, "++--");
+        Houses.dueBoundaries(checks, house, 0, "+---");
+        Houses.dueBoundaries(checks, house, 1, "++--");
         house.end(0, true);
         house.end(1, true);
         house.change(0, 2, 0, 1);
-        boundaryRow(checks, house, 0, "+----++");
-        boundaryRow(checks, house, 1, "++--+++");
-        boundaryRow(checks, house, 2, "++++++-");
+        Houses.dueBoundaries(checks, house, 0, "+----++");
+        Houses.dueBoundaries(checks, house, 1, "++--+++");
+        Houses.dueBoundaries(checks, house, 2, "++++++-");
     }
 
     private static void boundariesInRollback(Checks checks) {
@@ -41,10 +31,10 @@ public final class JournalTest {
         house.change(0, 0, 0, 1);
         house.change(0, 1, 0, 1);
         house.cut(0);
-        boundaryRow(checks, house, 0, "+--");
+        Houses.dueBoundaries(checks, house, 0, "+--");
         house.start();
-        boundaryRow(checks, house, 0, "+----+");
-        boundaryRow(checks, house, 1, "++---+");
+        Houses.dueBoundaries(checks, house, 0, "+----+");
+        Houses.dueBoundaries(checks, house, 1, "++---+");
     }
 
     private static void boundariesOfTheHouse(Checks checks) {
@@ -53,10 +43,10 @@ public final class JournalTest {
         house.change(0, 0, 1, 1);
         house.end(0, true);
         house.remove(0, 0);
-        boundaryRow(checks, house, 0, "+--+--+");
-        boundaryRow(checks, house, 1, "+++++++");
+        Houses.dueBoundaries(checks, house, 0, "+--+--+");
+        Houses.dueBoundaries(checks, house, 1, "+++++++");
         house.apply(0, 3);
-        boundaryRow(checks, house, 0, "+--+--+--+");
+        Houses.dueBoundaries(checks, house, 0, "+--+--+--+");
     }
 
     private static void boundariesNowhere(Checks checks) {
@@ -69,7 +59,7 @@ public final class JournalTest {
             checks.no("boundary of " + file, house.boundary(file, 2));
         }
         Houses.dropReceiver(house, 0);
-        boundaryRow(checks, house, 0, "+-+-+-+-+");
+        Houses.dueBoundaries(checks, house, 0, "+-+-+-+-+");
         house.file(1);
         checks.yes("a file that was made later", house.boundary(1, 1));
     }
