@@ -128,12 +128,15 @@ public final class ApplyEdgesTest {
         refusals.wrongState("up to 5", removedToTheSame, house -> house.apply(0, 5));
         refusals.wrongState("up to 6", removedToTheSame, house -> house.apply(0, 6));
         checks.same("up to 4", removedToTheSame.get().apply(0, 4), 0);
-        JournalHouse atZero = Houses.withFiles(1, 1);
-        atZero.save(0, 0);
-        atZero.restore(0);
-        Houses.commit(atZero, 1, 0, 7);
-        checks.wrongState("a limit of 1", () -> atZero.apply(0, 1));
-        checks.wrongState("a limit of 1", () -> atZero.apply(0, 2));
+        Supplier<JournalHouse> restoredAtZero = () -> {
+            JournalHouse house = Houses.withFiles(1, 1);
+            house.save(0, 0);
+            house.restore(0);
+            Houses.commit(house, 1, 0, 7);
+            return house;
+        };
+        refusals.wrongState("up to a limit of 1", restoredAtZero, house -> house.apply(0, 1));
+        refusals.wrongState("up to 2, with a limit of 1", restoredAtZero, house -> house.apply(0, 2));
     }
 
     /** "one more than the last number there was before a file was restored", if it was live or not. */
@@ -265,14 +268,17 @@ public final class ApplyEdgesTest {
         Houses.dropReceiver(house, 0);
         house.restore(0);
         checks.same("those before it are dropped", house.apply(0, 10), 1);
-        JournalHouse upTo = Houses.withFiles(1, 1);
-        upTo.save(0, 0);
-        Houses.commit(upTo, 1, 0, 9);
-        Houses.commitAll(upTo, 1, 2, 3);
-        Houses.dropReceiver(upTo, 0);
-        upTo.restore(0);
-        checks.same("there is none up to 2", upTo.apply(0, 2), 0);
-        checks.wrongState("there is one up to 4", () -> upTo.apply(0, 4));
+        Supplier<JournalHouse> upTo = () -> {
+            JournalHouse later = Houses.withFiles(1, 1);
+            later.save(0, 0);
+            Houses.commit(later, 1, 0, 9);
+            Houses.commitAll(later, 1, 2, 3);
+            Houses.dropReceiver(later, 0);
+            later.restore(0);
+            return later;
+        };
+        checks.same("there is none up to 2", upTo.get().apply(0, 2), 0);
+        refusals.wrongState("there is one up to 4", upTo, later -> later.apply(0, 4));
     }
 
     private void onlyChangesOfTheFileMatter() {

@@ -214,10 +214,11 @@ public final class DropEdgesTest {
 
     /** At most 120 entries are fifteen receivers. */
     private void fifteenReceivers() {
-        JournalHouse house = Houses.withDropped(15, 1);
+        Supplier<JournalHouse> full = () -> Houses.withDropped(15, 1);
+        refusals.wrongState("a sixteenth", full, JournalHouse::drop);
+        JournalHouse house = full.get();
         checks.same("last", house.last(), 120);
         checks.same("none is kept", house.entry(120, 0), JournalHouse.NONE);
-        checks.wrongState("a sixteenth", house::drop);
         checks.same("get", house.get(0, 0), 0);
         house.cut(0);
         checks.same("start", house.start(), 120);

@@ -270,10 +270,11 @@ public final class LinkEdgesTest {
     }
 
     private void allEntriesCome() {
-        JournalHouse house = Houses.withDropped(15, 1);
-        checks.same("applied", house.ack(), 120);
-        checks.wrongArgument("entry 121", () -> house.link(121, IS_SENT));
-        checks.same("takeOver", house.takeOver(), 120);
+        Supplier<JournalHouse> full = () -> Houses.withDropped(15, 1);
+        refusals.wrongArgument("entry 120, which is dropped", full, house -> house.link(120, IS_SENT));
+        refusals.wrongArgument("entry 121", full, house -> house.link(121, IS_SENT));
+        checks.same("applied", full.get().ack(), 120);
+        checks.same("takeOver", full.get().takeOver(), 120);
     }
 
     /** "The house gets to know what number the remote one has applied: that." */

@@ -24,8 +24,9 @@ final class Refusals {
     private static final int LETTERS = 16;
     private static final int ENTRIES = 120;
     private static final int SIX_RECEIVERS = 48;
-    /** So many entries, with six questions each, stay below the calls that an object is made for. */
-    private static final int ENTRIES_AT_ONCE = 30;
+    /** What a sequel asks for stays below the calls that are left of 512 where a full journal took most. */
+    private static final int ENTRIES_AT_ONCE = 20;
+    private static final int NUMBERS_AT_ONCE = 60;
 
     private static final List<Sequel> SEQUELS = sequels();
 
@@ -90,7 +91,8 @@ final class Refusals {
         for (int file = 0; file < FILES; file++) {
             int which = file;
             plain.add(witness -> readBoundaries(witness, which));
-            plain.add(witness -> applyAndRemove(witness, which));
+            plain.add(witness -> applyTo(witness, which));
+            plain.add(witness -> removeFrom(witness, which));
         }
         plain.add(Refusals::restoreAll);
         plain.add(Refusals::dropAll);
@@ -181,17 +183,21 @@ final class Refusals {
     }
 
     /** The greatest number that can be applied shows the limit. */
-    private static void applyAndRemove(Witness witness, int file) {
-        JournalHouse house = witness.house;
-        readNumbers(witness);
-        int last = house.last();
-        for (int number = last; number >= 0 && number > last - 60; number--) {
-            int to = number;
-            witness.hear(() -> house.apply(file, to));
+    private static void applyTo(Witness witness, int file) {
+        int last = witness.house.last();
+        for (int i = 0; i < NUMBERS_AT_ONCE; i++) {
+            int number = last - i;
+            witness.hear(() -> witness.house.apply(file, number));
         }
-        for (int number = last; number >= 0 && number > last - 60; number--) {
-            int to = number;
-            witness.hear(() -> house.remove(file, to));
+        readRecords(witness);
+        readNumbers(witness);
+    }
+
+    private static void removeFrom(Witness witness, int file) {
+        int last = witness.house.last();
+        for (int i = 0; i < NUMBERS_AT_ONCE; i++) {
+            int number = last - i;
+            witness.hear(() -> witness.house.remove(file, number));
         }
         readRecords(witness);
         readNumbers(witness);
@@ -223,8 +229,6 @@ final class Refusals {
             witness.hear(() -> witness.house.link(0, 0));
             witness.hear(witness.house::ack);
         }
-        readRecords(witness);
-        witness.heard.add((long) witness.house.takeOver());
         readRecords(witness);
     }
 

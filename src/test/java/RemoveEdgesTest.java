@@ -90,10 +90,13 @@ public final class RemoveEdgesTest {
         checks.same("the last is a change of another file", house.last(), 10);
         checks.same("down to 9", house.remove(0, 9), 0);
         checks.same("number", house.number(0), 9);
-        JournalHouse one = Houses.withFiles(1, 1);
-        one.change(2, 1, 0, 5);
-        checks.wrongState("from 1 to 1", () -> one.remove(0, 1));
-        checks.same("from 1 to 0", one.remove(0, 0), 0);
+        Supplier<JournalHouse> one = () -> {
+            JournalHouse first = Houses.withFiles(1, 1);
+            first.change(2, 1, 0, 5);
+            return first;
+        };
+        refusals.wrongState("from 1 to 1", one, first -> first.remove(0, 1));
+        checks.same("from 1 to 0", one.get().remove(0, 0), 0);
     }
 
     private void notBelowItsOwn() {
@@ -186,16 +189,20 @@ public final class RemoveEdgesTest {
     }
 
     private void onlyChangesOfTheFileMatter() {
-        JournalHouse house = Houses.withFiles(1, 1);
-        for (int n = 1; n <= 4; n++) {
-            Houses.commit(house, 1, 0, n);
-        }
-        Houses.commitAll(house, 5);
-        Houses.dropReceiver(house, 0);
+        Supplier<JournalHouse> state = () -> {
+            JournalHouse house = Houses.withFiles(1, 1);
+            for (int n = 1; n <= 4; n++) {
+                Houses.commit(house, 1, 0, n);
+            }
+            Houses.commitAll(house, 5);
+            Houses.dropReceiver(house, 0);
+            return house;
+        };
+        JournalHouse house = state.get();
         checks.same("those of the other file are dropped", house.remove(0, 0), 1);
         checks.same("get", house.get(0, 0), 0);
-        checks.wrongState("and it can't go there", () -> house.remove(1, 6));
-        checks.same("but over its own kept ones", house.remove(1, 8), 0);
+        refusals.wrongState("the other file can't go over them", state, other -> other.remove(1, 6));
+        checks.same("but down to them", state.get().remove(1, 8), 0);
     }
 
     private void nothingToChange() {

@@ -30,20 +30,17 @@ public final class RoomEdgesTest {
      */
     private void sixReceiversAreKept() {
         int[] changes = {23, 23, 23, 23, 23, 23, 23, 23, 23, 23, 19, 15, 11, 7, 3, 0};
-        for (int dropped = 0; dropped <= 15; dropped++) {
+        for (int receivers = 0; receivers <= 15; receivers++) {
+            int dropped = receivers;
             JournalHouse house = Houses.withDropped(dropped, 1);
             for (int n = 1; n <= changes[dropped]; n++) {
                 checks.same("with " + dropped + " dropped", house.change(1, 0, 0, n), 8 * dropped + n);
             }
-            checks.wrongState("one more with " + dropped + " dropped", () -> house.change(1, 0, 0, 0));
-        }
-        for (int dropped : new int[] {0, 1, 8}) {
-            Supplier<JournalHouse> full = () -> {
-                JournalHouse house = Houses.withDropped(dropped, 1);
-                Houses.change(house, 1, 0, 0, 23);
-                return house;
-            };
-            refusals.wrongState("a 24th with " + dropped + " dropped", full, house -> house.change(1, 0, 0, 0));
+            refusals.wrongState("one more with " + dropped + " dropped", () -> {
+                JournalHouse full = Houses.withDropped(dropped, 1);
+                Houses.change(full, 1, 0, 0, changes[dropped]);
+                return full;
+            }, full -> full.change(1, 0, 0, 0));
         }
     }
 
@@ -161,16 +158,22 @@ public final class RoomEdgesTest {
 
     private void anEndedCycleHasNoReserve() {
         for (boolean commit : new boolean[] {true, false}) {
-            JournalHouse house = Houses.withFiles(2);
-            Houses.change(house, 0, 0, 0, 4);
-            Houses.change(house, 1, 0, 1, 16);
-            house.end(0, commit);
-            int last = house.last();
-            int free = (48 - last - 17) / 2;
-            for (int n = 1; n <= free; n++) {
-                checks.same("change", house.change(1, 0, 1, n), last + n);
-            }
-            checks.wrongState("one more", () -> house.change(1, 0, 1, 0));
+            int last = commit ? 21 : 25;
+            int free = commit ? 5 : 3;
+            Supplier<JournalHouse> ended = () -> {
+                JournalHouse house = Houses.withFiles(2);
+                Houses.change(house, 0, 0, 0, 4);
+                Houses.change(house, 1, 0, 1, 16);
+                house.end(0, commit);
+                Houses.change(house, 1, 0, 1, free - 1);
+                return house;
+            };
+            checks.same("the last that is free", ended.get().change(1, 0, 1, 0), last + free);
+            refusals.wrongState("one more", () -> {
+                JournalHouse house = ended.get();
+                house.change(1, 0, 1, 0);
+                return house;
+            }, house -> house.change(1, 0, 1, 0));
         }
     }
 
@@ -252,19 +255,21 @@ public final class RoomEdgesTest {
         }
     }
 
-    /** "there are at most 120" */
+    /** "there are at most 120": no change of a job can be the last one, as its end needs room, too. */
     private void atMost120Entries() {
-        for (int dropped : new int[] {9, 10, 12}) {
-            JournalHouse house = Houses.withDropped(dropped, 1, 1);
-            int changes = (120 - house.last() - 1) / 2;
-            Houses.change(house, 0, 0, 0, changes);
-            checks.wrongState("one more", () -> house.change(0, 0, 0, 0));
-            checks.same("119", house.end(0, false), 119);
+        for (int receivers : new int[] {9, 10, 12}) {
+            Supplier<JournalHouse> with119 = () -> {
+                JournalHouse house = Houses.withDropped(receivers, 1, 1);
+                Houses.change(house, 0, 0, 0, (120 - house.last() - 1) / 2);
+                house.end(0, false);
+                return house;
+            };
+            checks.same("last", with119.get().last(), 119);
+            checks.same("a 120th is not there", with119.get().entry(120, 0), JournalHouse.NONE);
             for (int job = 0; job <= 2; job++) {
                 int by = job;
-                checks.wrongState("at 119", () -> house.change(by, 1, 0, 5));
+                refusals.wrongState("job " + job + " at 119", with119, house -> house.change(by, 1, 0, 5));
             }
-            checks.same("a 120th is not there", house.entry(120, 0), JournalHouse.NONE);
         }
     }
 
@@ -281,52 +286,68 @@ public final class RoomEdgesTest {
         return house;
     }
 
-    private void noChangeBehind117() {
+    private static JournalHouse with117() {
         JournalHouse house = with116();
-        checks.same("last", house.last(), 116);
-        checks.same("at 116", house.change(0, 1, 0, 1), 117);
-        checks.wrongState("a second one at 117, as 2 is less than 3", () -> house.change(0, 1, 0, 2));
-        checks.wrongState("another job's first at 117", () -> house.change(2, 0, 0, 2));
-        checks.same("119", house.end(0, false), 119);
-        refusals.wrongState("a change at 118", this::with118, full -> full.change(0, 1, 0, 2));
+        house.change(0, 1, 0, 1);
+        return house;
     }
 
-    private JournalHouse with118() {
-        JournalHouse house = with116();
-        Houses.commit(house, 1, 0, 1);
+    /** The cycle of the 117th entry is over, by its COMMIT, or by its rollback, which takes one entry more. */
+    private static JournalHouse with118() {
+        JournalHouse house = with117();
+        house.end(0, true);
         return house;
+    }
+
+    private static JournalHouse with119() {
+        JournalHouse house = with117();
+        house.end(0, false);
+        return house;
+    }
+
+    private void noChangeBehind117() {
+        checks.same("last", with116().last(), 116);
+        checks.same("at 116", with116().change(2, 1, 0, 1), 117);
+        refusals.wrongState("a second one at 117", RoomEdgesTest::with117, full -> full.change(0, 1, 0, 2));
+        refusals.wrongState("another job's first at 117", RoomEdgesTest::with117, full -> full.change(2, 0, 0, 2));
+        refusals.wrongState("a change at 118", RoomEdgesTest::with118, full -> full.change(0, 1, 0, 2));
+        refusals.wrongState("a change at 119", RoomEdgesTest::with119, full -> full.change(0, 1, 0, 2));
     }
 
     private void ownChangesUpTo120() {
         JournalHouse house = with118();
         checks.same("restore at 118", house.restore(0), 1);
         checks.same("last", house.last(), 120);
-        checks.same("the last entry", house.entry(120, 0), 2);
+        Houses.dueEntry(checks, house, 120, 2, 3);
         checks.yes("a boundary at 120", house.boundary(0, 120));
-        checks.wrongState("remove at 120", () -> house.remove(1, 116));
         checks.same("restore of nothing at 120", house.restore(0), 0);
-        JournalHouse other = with116();
-        other.change(0, 1, 0, 1);
-        other.end(0, false);
-        checks.wrongState("restore at 119", () -> other.restore(0));
-        checks.same("number as it was", other.number(0), -1);
-        checks.same("record as it was", other.get(0, 0), 7);
-        checks.same("last as it was", other.last(), 119);
+        refusals.wrongState("restore at 119", RoomEdgesTest::with119, full -> full.restore(0));
+        checks.same("remove at 118", with118().remove(0, 113), 1);
+        refusals.wrongState("remove at 119", RoomEdgesTest::with119, full -> full.remove(0, 113));
+        refusals.wrongState("remove at 120", () -> {
+            JournalHouse full = with118();
+            full.restore(0);
+            return full;
+        }, full -> full.remove(1, 116));
     }
 
     private void a120thEntryByRollback() {
-        JournalHouse house = Houses.withDropped(9, 1);
-        Houses.change(house, 1, 0, 0, 2);
-        house.end(1, true);
-        Houses.change(house, 0, 0, 0, 22);
-        checks.same("at 97 room is 23, as the reserve", house.last(), 97);
-        checks.wrongState("a 23rd", () -> house.change(0, 0, 0, 0));
+        Supplier<JournalHouse> state = () -> {
+            JournalHouse house = Houses.withDropped(9, 1);
+            Houses.change(house, 1, 0, 0, 2);
+            house.end(1, true);
+            Houses.change(house, 0, 0, 0, 22);
+            return house;
+        };
+        checks.same("at 97 room is 23, as the reserve", state.get().last(), 97);
+        refusals.wrongState("a 23rd", state, house -> house.change(0, 0, 0, 0));
+        JournalHouse house = state.get();
         house.cut(0);
         checks.same("the start rolls it back", house.start(), 120);
-        checks.same("the last entry", house.entry(120, 0), 3);
+        Houses.dueEntry(checks, house, 120, 3, 0);
         checks.same("get", house.get(0, 0), 2);
         Houses.deliver(house, 73, 120);
         checks.same("all come", house.ack(), 120);
-        checks.same("no letter of a 121st", house.takeOver(), 120);
+        checks.same("takeOver", house.takeOver(), 120);
     }
 }
