@@ -15,7 +15,7 @@ import java.util.Set;
 import java.util.regex.Matcher;
 import java.util.regex.Pattern;
 
-/** Rules of ../shared/LANGUAGE.md that a test can see in the class and its text, and rule 7: no call throws by itself. */
+/** Some rules of ../shared/LANGUAGE.md, seen in the class and its text, and rule 7: no call throws by itself. */
 public final class LanguageTest {
     private static final Path SOURCE = Path.of("src/main/java/JournalHouse.java");
     private static final Set<String> LIBRARY = Set.of("System.arraycopy", "Math.min", "Math.max");
